@@ -21,6 +21,7 @@ public final class PromisesTest {
         soonOfRowedAndWaiting();
         soonAtItsBound();
         set();
+        setThatIsLong();
         setWhereTheFasterStartIsWorse();
         two();
         asks();
@@ -160,6 +161,9 @@ public final class PromisesTest {
         fault("swell 1 h=1; ebb 1 h=1", 12);
         fault("swell 1 h=1&", 12);
         fault("swell 1 h=1&|d=1", 12);
+        fault("swell 1 h=1|", 12);
+        fault("swell 1 (h=1|)", 13);
+        fault("swell 1 (h=1&)", 13);
         fault("swell 1 h=1||d=1", 12);
         fault("swell 1 |h=1", 8);
         fault("swell 1 ()", 9);
@@ -312,6 +316,12 @@ public final class PromisesTest {
         for (int i = 0; i < 4; i++) {
             due.is("at", x.at(i, 0), 6 - i);
             due.is("at", x.at(i, 1), i * 3);
+        }
+        for (int kind = 0; kind < 7; kind++) {
+            LowWater one = new LowWater();
+            due.is("reader", one.reader(kind, 9 - kind), 0);
+            due.is("at(0, 0)", one.at(0, 0), kind);
+            due.is("at(0, 1)", one.at(0, 1), 9 - kind);
         }
         due.is("at(4, 0)", x.at(4, 0), NONE);
         due.is("at(-1, 0)", x.at(-1, 0), NONE);
@@ -490,6 +500,29 @@ public final class PromisesTest {
         due.is("told(0)", x.told(0), 5);
     }
 
+    /** Dry is HOUR 59 of every 60 alone. */
+    private static void setThatIsLong() {
+        due.about("promise 14, 60 HOURS each");
+        LowWater x = under("swell 99 !(h=11&m=4)");
+        x.reader(0, 0);
+        x.reader(1, 0);
+        for (int i = 0; i < 6; i++) {
+            x.slate(8 - i % 2, 1);
+        }
+        for (int hour = 0; hour < 3; hour++) {
+            due.is("set(0, 63, -1)", x.set(0, 63, -1), 360 - hour);
+            due.is("set(0, 62, -1)", x.set(0, 62, -1), 300 - hour);
+            for (int k = 0; k < 6; k++) {
+                due.is("set(0, 63, " + k + ")", x.set(0, 63, k), k);
+            }
+            due.is("two(1, 0, 63, 0)", x.two(1, 0, 63, 0), 180 - hour);
+            due.is("two(1, 0, 63, 1)", x.two(1, 0, 63, 1), 7);
+            x.hours(1);
+        }
+        x.put(3, 4);
+        due.is("set(0, 63, -1)", x.set(0, 63, -1), NEVER);
+    }
+
     /** 0 first is read at once, then 1 at once, but 2 only later than 60 HOURS behind that. */
     private static void setWhereTheFasterStartIsWorse() {
         due.about("promise 14, within 60 HOURS of the one ahead");
@@ -582,6 +615,16 @@ public final class PromisesTest {
         due.is("count(3)", x.count(3), 0);
         due.is("waits()", x.waits(), 0);
         due.is("ask(0, 1, 0)", x.ask(0, 1, 0), 1);
+        x = new LowWater();
+        x.reader(0, 0);
+        x.slate(0, 1);
+        x.ask(0, 0, 8);
+        // from HOUR 8 on to HOUR 18
+        due.is("waits()", x.waits(), 11);
+        x.hours(2);
+        due.is("waits()", x.waits(), 9);
+        x.hours(9);
+        due.is("waits()", x.waits(), 12);
     }
 
     private static void shelve() {
@@ -605,6 +648,10 @@ public final class PromisesTest {
         due.is("shelve(-1, 0)", x.shelve(-1, 0), NONE);
         due.is("shelve(0, 2)", x.shelve(0, 2), NONE);
         due.is("shelve(0, -1)", x.shelve(0, -1), NONE);
+        x.put(1, 1);
+        due.is("shelve(0, 1)", x.shelve(0, 1), 1 + 8);
+        x.hours(6);
+        due.is("shelve(0, 1)", x.shelve(0, 1), 1 + 2);
         // all of its SHELVES are as wet: the greatest number
         x = under("swell 99 h<12");
         x.reader(0, 0);
@@ -1010,6 +1057,26 @@ public final class PromisesTest {
         x.slate(0, 1);
         due.is("undo()", x.undo(), 3);
         due.is("level(1)", x.level(1), 0);
+        x = under("wave 1 h<12");
+        x.image();
+        due.is("told(1)", x.told(1), 6);
+        for (int i = 0; i < 3; i++) {
+            cave(x, "swell 2 h<12;wave 3 h<12");
+            due.is("told(1)", x.told(1), 8);
+            due.is("told(2)", x.told(2), 3);
+            x.undo();
+            due.is("told(1)", x.told(1), 6);
+            due.is("told(2)", x.told(2), 1);
+            due.is("count(2)", x.count(2), 1);
+        }
+        cave(x, "swell 3 h<12");
+        due.is("told(1)", x.told(1), 9);
+        x.image();
+        x.hours(9);
+        due.is("undo()", x.undo(), 0);
+        due.is("told(0)", x.told(0), 0);
+        due.is("told(1)", x.told(1), 9);
+        due.is("told(2)", x.told(2), 0);
     }
 
     private static void count() {
