@@ -204,7 +204,7 @@ public final class LowWater {
         }
         fillWaited();
         int best = 0;
-        int least = Integer.MAX_VALUE;
+        int least = NOT_SOON * TOLD;
         for (int shelf = 0; shelf < SHELVES; shelf++) {
             int sum = waitsIf(slate, shelf, NONE, NONE);
             if (sum <= least) {

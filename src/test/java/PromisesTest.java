@@ -162,6 +162,11 @@ public final class PromisesTest {
         fault("swell 1 h=1&", 12);
         fault("swell 1 h=1&|d=1", 12);
         fault("swell 1 h=1|", 12);
+        fault("swell 1 h=1:", 11);
+        fault("swell 1 h=1/", 11);
+        fault("swell 1 h=:", 10);
+        fault("swell /", 6);
+        fault("swell :", 6);
         fault("swell 1 (h=1|)", 13);
         fault("swell 1 (h=1&)", 13);
         fault("swell 1 h=1||d=1", 12);
@@ -1057,7 +1062,7 @@ public final class PromisesTest {
         x.slate(0, 1);
         due.is("undo()", x.undo(), 3);
         due.is("level(1)", x.level(1), 0);
-        x = under("wave 1 h<12");
+        x = under("wave 1 d<3");
         x.image();
         due.is("told(1)", x.told(1), 6);
         for (int i = 0; i < 3; i++) {
@@ -1069,6 +1074,9 @@ public final class PromisesTest {
             due.is("told(2)", x.told(2), 1);
             due.is("count(2)", x.count(2), 1);
         }
+        x.hours(36);
+        due.is("told(2)", x.told(2), 0);
+        x.undo();
         cave(x, "swell 3 h<12");
         due.is("told(1)", x.told(1), 9);
         x.image();
