@@ -16,6 +16,15 @@ final class Due {
         }
     }
 
+    /** All that can be asked for, as Make.look tells it, is as it was. */
+    void same(String call, String is, String was) {
+        looked++;
+        if (!is.equals(was)) {
+            wrong++;
+            System.out.println(about + ": " + call + " changed" + was + "\n  to" + is);
+        }
+    }
+
     /** Ends the program with 1, if an answer was not the one that is due. */
     void end() {
         System.out.println(looked + " answers, " + wrong + " not as due");
