@@ -2,6 +2,8 @@ import java.util.Random;
 
 /** Random runs of calls, each answered by the class and by the Model, and random texts of CAVES. */
 public final class ModelTest {
+    /** Behind its 512th call what an object answers is free; a CAVE is fed by 101 at most. */
+    private static final int MOST_CALLS = 512, LONGEST = 101;
     private static final Due due = new Due();
 
     private final Random random;
@@ -63,8 +65,11 @@ public final class ModelTest {
                 is("hours(60)", x.hours(60), model.hours(60));
             }
         }
-        while (calls < 512) {
+        while (calls <= MOST_CALLS - LONGEST) {
             any();
+        }
+        while (calls < MOST_CALLS) {
+            dry(random.nextInt(8));
         }
     }
 

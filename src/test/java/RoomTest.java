@@ -1,19 +1,44 @@
 import java.lang.management.ManagementFactory;
 
-/** What a run of 512 calls makes: next to nothing behind the constructor, also by the dearest calls. */
+/** What a run of 512 calls makes: of each of the dearest calls as many as a run can have. */
 public final class RoomTest {
-    /** 7.3 million elements are the room of one run; a run has one object or a few. */
-    private static final long OF_AN_OBJECT = 200_000, OF_A_RUN = 20_000;
+    /** 7.3 million elements are the room of all calls of a run, of which a byte is the least. */
+    private static final long ROOM = 7_300_000;
     private static final Due due = new Due();
 
+    private int calls = 0;
+    private final LowWater x = new LowWater();
+
+    private RoomTest() {
+        calls += 32;
+        for (int i = 0; i < 6; i++) {
+            x.slate(i + 1, i % 4 + 1);
+        }
+        for (int kind = 3; kind < 6; kind++) {
+            x.reader(kind, 2);
+        }
+        for (int i = 0; i < 8; i++) {
+            x.ask(i % 3, i % 6, i);
+            x.tale(i % 3, i % 6, 6);
+        }
+        for (int i = 0; i < 6; i++) {
+            x.see(i, i > 3);
+        }
+        String text = "swell 1 d=1&(h<2|!h<9);ebb 1 m=1;wave 3 h>3";
+        for (int i = 0; i < text.length(); i++) {
+            x.feed(text.charAt(i));
+        }
+        x.cave();
+        calls += text.length() + 1;
+    }
+
     public static void main(String[] args) {
-        fullRun();
-        long ahead = made();
-        LowWater x = new LowWater();
-        due.is("bytes of an object over " + OF_AN_OBJECT, Math.max(OF_AN_OBJECT, made() - ahead), OF_AN_OBJECT);
-        due.is("told(0)", x.told(0), 0);
-        long bytes = fullRun();
-        due.is("bytes of 512 calls over " + OF_A_RUN, Math.max(OF_A_RUN, bytes), OF_A_RUN);
+        new RoomTest().run("all");
+        for (String call : new String[] {"two", "set", "change", "shelve", "safe", "act", "undo", "cave", "all"}) {
+            long ahead = made();
+            new RoomTest().run(call);
+            due.is("bytes of 512 calls, most of them " + call, Math.max(ROOM, made() - ahead), ROOM);
+        }
         due.end();
     }
 
@@ -22,37 +47,48 @@ public final class RoomTest {
         return threads.getCurrentThreadAllocatedBytes();
     }
 
-    private static long fullRun() {
-        LowWater x = new LowWater();
-        for (int i = 0; i < 6; i++) {
-            x.slate(i + 1, i % 4 + 1);
+    private void run(String call) {
+        for (; calls + 64 <= 512; calls += 16) {
+            for (int i = 0; i < 16; i++) {
+                one(call, i);
+            }
         }
-        for (int kind = 3; kind < 7; kind++) {
-            x.reader(kind, 2);
+    }
+
+    private void one(String call, int i) {
+        switch (call) {
+            case "two":
+                x.two(0, 1, 63, 1);
+                break;
+            case "set":
+                x.set(2, 63, 3);
+                break;
+            case "change":
+                x.change();
+                break;
+            case "shelve":
+                x.shelve(i % 6, 1);
+                break;
+            case "safe":
+                x.safe(6, 12, 1);
+                break;
+            case "act":
+                x.act(1, 2, i);
+                break;
+            case "undo":
+                x.image();
+                x.undo();
+                calls++;
+                break;
+            case "cave":
+                x.cave();
+                break;
+            default:
+                one(new String[] {"two", "set", "change", "shelve", "safe", "act", "cave"}[i % 7], i);
+                x.waits();
+                x.looked();
+                x.stood();
+                calls += 3;
         }
-        for (int i = 0; i < 8; i++) {
-            x.ask(i % 4, i % 6, i);
-            x.see(i, i > 3);
-            x.tale(i % 4, i % 6, 6);
-        }
-        String text = "swell 1 d=1&(h<2|!h<9);ebb 1 m=1;wave 3 h>3;";
-        long ahead = made();
-        for (int call = 0; call < 460; call++) {
-            x.feed(text.charAt(call % text.length()));
-            x.cave();
-            x.hours(1);
-            x.two(0, 3, 63, 0);
-            x.two(1, 2, 63, 1);
-            x.set(2, 63, 3);
-            x.change();
-            x.shelve(call % 6, 1);
-            x.safe(6, 12, 1);
-            x.stood();
-            x.looked();
-            x.act(1, 2, call);
-            x.image();
-            x.undo();
-        }
-        return made() - ahead;
     }
 }
