@@ -486,6 +486,49 @@ public final class EdgesOfActsTest {
         due.is("told(1)", x.told(1), 5);
     }
 
+    /** "All is as THE IMAGE": all CLAUSES of the CAVE that held, at HOURS that nobody has asked for yet. */
+    static void promise33_allClausesOfTheCaveThatHeld() {
+        LowWater x = Make.under("swell 1 h=0;swell 2 h=1|h=2&!(d<1|m>3);ebb 1 h=4;wave 3 h>4;swell 99 !(d<69|m=4)");
+        x.image();
+        Make.cave(x, "ebb 9 h<99");
+        due.is("level(0)", x.level(0), 0);
+        x.undo();
+        int[] levels = {7, 7, 4, 3, 1, 1, 0, 1, 2, 3, 4, 5, 7, 7, 4};
+        for (int k = 0; k < levels.length; k++) {
+            due.is("level(" + k + ")", x.level(k), levels[k]);
+        }
+        due.is("level(26)", x.level(26), 6);
+        x.hours(5);
+        due.is("told(2)", x.told(2), 3);
+    }
+
+    /** "All is as THE IMAGE": the CAVE that held, where h, d and m are at their ends. */
+    static void promise33_theCaveAtTheEnds() {
+        LowWater x = Make.go(Make.under("swell 3 h=11&d=13&m=4"), 780);
+        due.is("level(59)", x.level(59), 8);
+        due.is("level(60)", x.level(60), 6);
+        x.image();
+        Make.cave(x, "ebb 9 h<99");
+        due.is("level(59)", x.level(59), 0);
+        due.is("level(60)", x.level(60), 0);
+        x.undo();
+        due.is("level(59)", x.level(59), 8);
+        due.is("level(60)", x.level(60), 6);
+    }
+
+    /** "All is as THE IMAGE": SLATES that come behind it have their own SHELF and LINES. */
+    static void promise33_theSlates() {
+        LowWater x = Make.slates(new LowWater(), 1, 1);
+        x.image();
+        Make.slates(x, 2, 2, 3, 3);
+        x.undo();
+        due.is("of(1, 1)", x.of(1, 1), NONE);
+        due.is("slate(7, 4)", x.slate(7, 4), 1);
+        due.is("of(1, 0)", x.of(1, 0), 7);
+        due.is("of(1, 1)", x.of(1, 1), 4);
+        due.is("of(0, 1)", x.of(0, 1), 1);
+    }
+
     /** "All is as THE IMAGE": no CAVE held. */
     static void promise33_noCaveHeld() {
         LowWater x = new LowWater();

@@ -1041,6 +1041,31 @@ public final class EdgesOfCavesTest {
         level("swell 1 h>99", 11, 5);
     }
 
+    /** "h or d or m, one of < = >": each by each, at 1 below the number, at it, at 1 above. */
+    static void promise11_eachTestAtItsNumber() {
+        int[] hours = {13, 14, 15, 23, 24, 36, 61, 62, 63};
+        char[] whats = {'h', 'h', 'h', 'd', 'd', 'd', 'm', 'm', 'm'};
+        for (int i = 0; i < 9; i++) {
+            int plain = Math.abs(hours[i] % 12 - 6);
+            for (int sign = 0; sign < 3; sign++) {
+                int want = plain + (i % 3 == sign ? 2 : 0);
+                level("swell 2 " + whats[i] + "<=>".charAt(sign) + "2", hours[i], want);
+            }
+        }
+    }
+
+    /** "h it modulo 12, d .. modulo 14, m it modulo 5": all three are as at HOUR 0 again at HOUR 840, at none ahead. */
+    static void promise11_allWrapAround() {
+        level("swell 3 h=11&d=13&m=4", 839, 8);
+        level("swell 3 h=11&d=13&m=4", 840, 6);
+        level("swell 3 h=0&d=0&m=0", 839, 5);
+        level("swell 3 h=0&d=0&m=0", 840, 9);
+        level("swell 3 h=0&d=0&m=0", 841, 5);
+        level("swell 3 h=11&d=13&m=4", 1679, 8);
+        wave("wave 3 h=11&d=13&m=4", 839, 3);
+        wave("wave 3 h=11&d=13&m=4", 840, 0);
+    }
+
     /** "E: T, or T|E. T: F, or F&T": & binds first; "a ! till its F ends". */
     static void promise11_whatBindsFirst() {
         level("swell 1 h=0|h=0&h=1", 0, 7);

@@ -915,6 +915,24 @@ public final class EdgesOfDryTest {
         due.is("looked() at k 59 of 1 line", x.looked(), 0);
     }
 
+    /** "a READER, a SLATE, k HOURS from now": each one of these, the first and the last. */
+    static void promise28_eachReaderEachSlate() {
+        int[] level = {6, 5, 4, 3, 2, 1, 0, 1, 2, 3, 4, 5};
+        LowWater x = Make.readers(new LowWater(), 2, 1, 2, 0, 2, 2, 3, 0);
+        Make.slates(x, 0, 1, 1, 1, 2, 1, 3, 1, 4, 1, 5, 1);
+        int[] dives = {1, 0, 2, 0};
+        for (int reader = 0; reader < 4; reader++) {
+            for (int slate = 0; slate < 6; slate++) {
+                for (int k : new int[] {0, 8, 27, 60}) {
+                    int want = level[k % 12] > slate + dives[reader] ? 0 : NEVER;
+                    x.tale(-1, 0, 0);
+                    x.tale(reader, slate, k);
+                    due.is("looked() at READER " + reader + ", SLATE " + slate + ", k " + k, x.looked(), want);
+                }
+            }
+        }
+    }
+
     /** "goes on from HOUR (beyond 9999, too)": of HOUR 10002 h is 6, HOUR 10000 is even. */
     static void promise28_beyond9999() {
         LowWater x = Make.go(one(0, 1, 0, 0), 9999);

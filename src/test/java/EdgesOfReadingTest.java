@@ -530,6 +530,16 @@ public final class EdgesOfReadingTest {
         two(x, 0, 1, 7, NEVER, NEVER);
     }
 
+    /** "to part it between the two": all six to one of them, nothing to the other. */
+    static void promise15_allToOne() {
+        LowWater x = Make.readers(Make.under(NEVER_DRY), 0, 0, 2, 1);
+        for (int i = 0; i < 6; i++) {
+            x.slate(8, 1);
+        }
+        two(x, 0, 1, 63, 6, 0);
+        two(x, 1, 0, 63, 6, 63);
+    }
+
     /** "BAD: one READER": also with a set of nothing. */
     static void promise15_oneReader() {
         LowWater x = Make.library();
@@ -776,6 +786,27 @@ public final class EdgesOfReadingTest {
         due.is("waits() of BLIND", x.waits(), 2);
         x.ask(3, 5, 0);
         due.is("waits() of the same twice", x.waits(), 4);
+    }
+
+    /** "a READER, a SLATE, so many HOURS from now": each one of these, the first and the last. */
+    static void promise17_eachReaderEachSlate() {
+        int[] level = {6, 5, 4, 3, 2, 1, 0, 1, 2, 3, 4, 5};
+        LowWater x = Make.readers(new LowWater(), 2, 1, 2, 0, 2, 2, 3, 0);
+        Make.slates(x, 0, 1, 1, 1, 2, 1, 3, 1, 4, 1, 5, 1);
+        int[] dives = {1, 0, 2, 0};
+        for (int reader = 0; reader < 4; reader++) {
+            for (int slate = 0; slate < 6; slate++) {
+                for (int k : new int[] {0, 8, 24}) {
+                    int wait = 1;
+                    while (level[(k + wait - 1) % 12] > slate + dives[reader]) {
+                        wait++;
+                    }
+                    x.ask(-1, 0, 0);
+                    x.ask(reader, slate, k);
+                    due.is("waits() of READER " + reader + ", SLATE " + slate + ", k " + k, x.waits(), wait);
+                }
+            }
+        }
     }
 
     /** "goes on from HOUR (beyond 9999, too)": 24 more is HOUR 10023, of which h is 3. */
