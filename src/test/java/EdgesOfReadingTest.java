@@ -402,7 +402,21 @@ public final class EdgesOfReadingTest {
         row(Make.go(x, 1), 0, 3, 61, 0, 1);
     }
 
-    /** "how many HOURS": as many as 6 SLATES can wait, each 60. */
+    /** "of all orders": 0 and 1 are read sooner as 0, 1 than as 1, 0, but 2 is within 60 HOURS of the later end alone. */
+    static void promise14_laterEndOfTheOnesAhead() {
+        row(laterIsBetter(), 0, 3, 2, 0, 1);
+        row(laterIsBetter(), 0, 4, NEVER);
+        row(laterIsBetter(), 0, 5, NEVER);
+        row(laterIsBetter(), 0, 7, 63, 1, 0, 2);
+    }
+
+    /** LEVEL is 3, 5, 9 .. at HOURS 0, 1, 2 .., 3 at HOUR 30, 0 at HOUR 62, else 9 till HOUR 71. */
+    private static LowWater laterIsBetter() {
+        String cave = "ebb 3 h=0&d=0;swell 99 d=0&h>1|d=1|d=2&!h=6|d>2&d<5|d=5&!h=2;swell 3 d=2&h=6;ebb 9 d=5";
+        return Make.readers(Make.slates(Make.under(cave), 3, 1, 6, 1, 0, 1), 0, 0, 0, 0);
+    }
+
+    /** "(each SLATE within 60 HOURS of the end of the one ahead)": far above 60 together. */
     static void promise14_farApart() {
         String cave = "swell 99 !(h=0&(d=0|d=5|d=10))";
         LowWater x = Make.readers(Make.slates(Make.under(cave), 8, 1, 8, 1, 8, 1, 8, 1), 0, 0);
@@ -528,6 +542,12 @@ public final class EdgesOfReadingTest {
         LowWater x = Make.readers(Make.slates(Make.under(AT_0_AND_61), 8, 1, 8, 1, 8, 1), 0, 0, 0, 0);
         two(x, 0, 1, 3, 1, 1);
         two(x, 0, 1, 7, NEVER, NEVER);
+    }
+
+    /** "each as of its own SET": of all orders, not of the ones soonest of fewer SLATES. */
+    static void promise15_laterEndOfTheOnesAhead() {
+        two(laterIsBetter(), 0, 1, 7, 63, 0);
+        two(laterIsBetter(), 0, 1, 4, NEVER, NEVER);
     }
 
     /** "to part it between the two": all six to one of them, nothing to the other. */
