@@ -786,10 +786,6 @@ public final class LowWater {
             if (open < OPEN && skip('(')) {
                 return readE(open + 1) && skip(')');
             }
-            return readTest();
-        }
-
-        private boolean readTest() {
             int what = skip('h') ? 0 : skip('d') ? 1 : skip('m') ? 2 : -1;
             if (what < 0) {
                 return false;

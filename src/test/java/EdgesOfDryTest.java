@@ -904,6 +904,16 @@ public final class EdgesOfDryTest {
         looked(y, 24, 0);
     }
 
+    /** "A READER may begin .. only, if": it goes on at HOURS at which it may not begin. */
+    static void promise28_goesOnWhereItMayNotBegin() {
+        looked(one(6, 4, 3, 2), 3, NEVER);
+        looked(one(6, 4, 3, 2), 4, 0);
+        looked(one(6, 4, 6, 0), 5, NEVER);
+        looked(one(6, 4, 6, 0), 6, NEVER);
+        looked(one(6, 4, 6, 1), 6, NEVER);
+        looked(one(6, 4, 6, 1), 7, 0);
+    }
+
     /** "k HOURS from now (0 .. 60)": 60 is HOUR 60, and goes on behind it. */
     static void promise28_kAt60() {
         LowWater x = Make.readers(Make.slates(Make.under("swell 9 !(h<4&d=5)"), 8, 4), 0, 0);
@@ -943,6 +953,9 @@ public final class EdgesOfDryTest {
         LowWater y = Make.go(one(6, 4, 3, 1), 9999);
         looked(y, 0, 0);
         looked(y, 1, NEVER);
+        LowWater w = Make.go(one(6, 4, 3, 2), 9999);
+        looked(w, 1, 0);
+        looked(w, 3, NEVER);
         LowWater z = Make.go(one(6, 4, 6, 0), 9999);
         looked(z, 3, NEVER);
         looked(z, 4, 0);
