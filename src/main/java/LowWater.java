@@ -161,7 +161,7 @@ public final class LowWater {
             return BAD;
         }
         orders.begin(now, r, set);
-        orders.goOn(0, 0, 0);
+        Orders.goOn(orders, 0, 0, 0);
         return k == -1 ? orders.hoursOf(set) : orders.kth(k);
     }
 
@@ -175,9 +175,9 @@ public final class LowWater {
             return BAD;
         }
         orders.begin(now, a, set);
-        orders.goOn(0, 0, 0);
+        Orders.goOn(orders, 0, 0, 0);
         othersOrders.begin(now, b, set);
-        othersOrders.goOn(0, 0, 0);
+        Orders.goOn(othersOrders, 0, 0, 0);
         int least = NEVER;
         int part = NEVER;
         for (int bits = 0; bits <= set; bits++) {
@@ -776,29 +776,26 @@ public final class LowWater {
         }
 
         private boolean readF(int open) {
-            if (open < OPEN && skip('!')) {
-                if (!readF(open + 1)) {
+            int inside = open;
+            while (inside < OPEN && skip('!')) {
+                inside++;
+            }
+            if (inside < OPEN && skip('(')) {
+                if (!readE(inside + 1) || !skip(')')) {
                     return false;
                 }
+            } else {
+                int what = skip('h') ? 0 : skip('d') ? 1 : skip('m') ? 2 : -1;
+                int sign = what < 0 ? -1 : skip('<') ? 0 : skip('=') ? 1 : skip('>') ? 2 : -1;
+                int number = sign < 0 ? -1 : readNumber();
+                if (number < 0) {
+                    return false;
+                }
+                addStep(3 * what + sign, number);
+            }
+            for (int i = open; i < inside; i++) {
                 addStep(NOT, 0);
-                return true;
             }
-            if (open < OPEN && skip('(')) {
-                return readE(open + 1) && skip(')');
-            }
-            int what = skip('h') ? 0 : skip('d') ? 1 : skip('m') ? 2 : -1;
-            if (what < 0) {
-                return false;
-            }
-            int sign = skip('<') ? 0 : skip('=') ? 1 : skip('>') ? 2 : -1;
-            if (sign < 0) {
-                return false;
-            }
-            int number = readNumber();
-            if (number < 0) {
-                return false;
-            }
-            addStep(3 * what + sign, number);
             return true;
         }
 
@@ -865,25 +862,25 @@ public final class LowWater {
         }
 
         /** An order by ones of the set, done the bits of those read by then; the first as a row comes first. */
-        private void goOn(int depth, int done, int time) {
+        private static void goOn(Orders orders, int depth, int done, int time) {
             if (done < 0 || done >= PARTS) {
                 return;
             }
-            if (best[done] == NEVER || time < best[done]) {
-                best[done] = time;
-                if (done == all) {
-                    System.arraycopy(row, 0, bestRow, 0, SLATES);
+            if (orders.best[done] == NEVER || time < orders.best[done]) {
+                orders.best[done] = time;
+                if (done == orders.all) {
+                    System.arraycopy(orders.row, 0, orders.bestRow, 0, SLATES);
                 }
             }
             if (depth < 0 || depth >= SLATES) {
                 return;
             }
-            int left = all & ~done;
+            int left = orders.all & ~done;
             for (int slate = 0; slate < SLATES; slate++) {
-                int hours = (left & 1 << slate) == 0 ? NEVER : soonFrom(slate, time);
+                int hours = (left & 1 << slate) == 0 ? NEVER : orders.soonFrom(slate, time);
                 if (hours != NEVER) {
-                    row[depth] = slate;
-                    goOn(depth + 1, done | 1 << slate, time + hours);
+                    orders.row[depth] = slate;
+                    goOn(orders, depth + 1, done | 1 << slate, time + hours);
                 }
             }
         }
