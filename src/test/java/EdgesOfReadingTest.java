@@ -482,6 +482,16 @@ public final class EdgesOfReadingTest {
         row(x, 0, 7, 3, 1, 0, 2);
     }
 
+    /** "An object is used for at most 512 calls": the last asking is answered as the first one is. */
+    static void promise14_toThe512thCall() {
+        LowWater x = Make.readers(Make.slates(new LowWater(), 0, 1, 8, 2, 8, 1), 0, 0, 2, 2);
+        for (int calls = 5; calls + 3 <= 512; calls += 3) {
+            due.is("set(0, 7, -1) behind " + calls + " calls", x.set(0, 7, -1), 7);
+            due.is("set(1, 7, -1)", x.set(1, 7, -1), 5);
+            due.is("set(0, 7, 2)", x.set(0, 7, 2), 0);
+        }
+    }
+
     // ---- promise 15
 
     /** "(.. nothing: 0)": a set of nothing. */
