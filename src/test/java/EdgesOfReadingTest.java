@@ -484,11 +484,11 @@ public final class EdgesOfReadingTest {
 
     /** "An object is used for at most 512 calls": the last asking is answered as the first one is. */
     static void promise14_toThe512thCall() {
-        LowWater x = Make.readers(Make.slates(new LowWater(), 0, 1, 8, 2, 8, 1), 0, 0, 2, 2);
-        for (int calls = 5; calls + 3 <= 512; calls += 3) {
-            due.is("set(0, 7, -1) behind " + calls + " calls", x.set(0, 7, -1), 7);
-            due.is("set(1, 7, -1)", x.set(1, 7, -1), 5);
-            due.is("set(0, 7, 2)", x.set(0, 7, 2), 0);
+        LowWater x = Make.readers(Make.slates(new LowWater(), 8, 2, 8, 4), 0, 0, 1, 0);
+        for (int calls = 4; calls + 3 <= 512; calls += 3) {
+            due.is("set(0, 3, -1) behind " + calls + " calls", x.set(0, 3, -1), 6);
+            due.is("set(1, 3, -1)", x.set(1, 3, -1), 3);
+            due.is("set(0, 3, 1)", x.set(0, 3, 1), 1);
         }
     }
 
